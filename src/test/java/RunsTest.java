@@ -277,6 +277,13 @@ public final class RunsTest {
         }
     }
 
+    private static int partOf(Model.Type type, int part) {
+        if (type == null) {
+            return 0;
+        }
+        return part == 0 ? (type.nullable ? 1 : 0) : part == 1 ? type.first : type.after;
+    }
+
     private void look() {
         int term = anyTerm();
         int part = odd(draw(3));
@@ -286,7 +293,7 @@ public final class RunsTest {
         Class<? extends RuntimeException> thrown = part < 0 || part > 2
                 ? IndexOutOfBoundsException.class : refusal(term);
         Model.Type type = thrown == null ? new Model(terms.get(term)).type() : null;
-        due("type", thrown, type == null ? 0 : part == 0 ? (type.nullable ? 1 : 0) : part == 1 ? type.first : type.after,
+        due("type", thrown, partOf(type, part),
                 () -> x.type(term, part));
         Check.answers("length", word.length(), x::length);
         boolean inWord = i >= 0 && i < word.length();
