@@ -2,6 +2,7 @@
 final class Check {
     private static int wrong = 0;
     private static int made = 0;
+    private static String heading = "";
 
     /** A call whose answer, or exception, is looked at. */
     interface Call {
@@ -57,7 +58,7 @@ final class Check {
      * Puts a term together, parts before wholes and from the left to the right: e EMPTY, n NONE,
      * 0 .. 7 a letter, .ab a pair, |ab an either, w x y z the variables 0 .. 3, W X Y Z a knot.
      */
-    static int build(GuardedGrammar x, String text) {
+    static int build(Counted x, String text) {
         int[] at = {0};
         int term = part(x, text, at);
         if (at[0] != text.length()) {
@@ -66,7 +67,7 @@ final class Check {
         return term;
     }
 
-    private static int part(GuardedGrammar x, String text, int[] at) {
+    private static int part(Counted x, String text, int[] at) {
         char sign = text.charAt(at[0]++);
         if (sign == 'e') {
             return x.leaf(-1);
@@ -89,24 +90,26 @@ final class Check {
     }
 
     /** The word becomes that of a text of digits. */
-    static void spell(GuardedGrammar x, String letters) {
+    static void spell(Counted x, String letters) {
         x.cut(0);
         for (int i = 0; i < letters.length(); i++) {
             x.put(letters.charAt(i) - '0');
         }
     }
 
-    static String word(GuardedGrammar x) {
+    static String word(Counted x) {
         StringBuilder text = new StringBuilder();
-        for (int i = 0; i < x.length(); i++) {
+        int length = x.length();
+        for (int i = 0; i < length; i++) {
             text.append(x.letter(i));
         }
         return text.toString();
     }
 
-    static String trace(GuardedGrammar x) {
+    static String trace(Counted x) {
         StringBuilder text = new StringBuilder();
-        for (int i = 0; i < x.trace(); i++) {
+        int steps = x.trace();
+        for (int i = 0; i < steps; i++) {
             text.append(x.step(i));
         }
         return text.toString();
@@ -119,10 +122,20 @@ final class Check {
         }
     }
 
-    private static void tell(String line) {
+    /** How many answers were looked at until now. */
+    static int made() {
+        return made;
+    }
+
+    /** What is told stands under a heading from now on: where it is due. */
+    static void under(String text) {
+        heading = text;
+    }
+
+    static void tell(String line) {
         wrong++;
         if (wrong <= 40) {
-            System.out.println(line);
+            System.out.println(heading.isEmpty() ? line : heading + ": " + line);
         }
     }
 

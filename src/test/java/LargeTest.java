@@ -1,6 +1,14 @@
 /** The largest terms, words and traces that the document allows, held against the plain Model. */
 public final class LargeTest {
-    private LargeTest() {
+    private final String text;
+    private final Model model;
+    private Counted x = new Counted();
+    private int root;
+
+    private LargeTest(String text) {
+        this.text = text;
+        model = new Model(parse(text));
+        root = Check.build(x, text);
     }
 
     public static void main(String[] args) {
@@ -68,44 +76,73 @@ public final class LargeTest {
 
     /** Reads a word, and finds words of up to so many letters, which must be read, and in order. */
     private static void compare(String text, String word, int most) {
-        GuardedGrammar x = new GuardedGrammar();
-        int root = Check.build(x, text);
-        Model model = new Model(parse(text));
-        Check.answers("fault of " + text, model.fault, () -> x.fault(root));
-        if (model.fault != 0) {
+        LargeTest test = new LargeTest(text);
+        Check.answers("fault of " + text, test.model.fault, () -> test.x.fault(test.root));
+        if (test.model.fault != 0) {
             Check.holds("typed: " + text, false);
             return;
         }
-        compareRead(x, root, model, word);
+        test.compareRead(word);
         for (int n = 0; n <= most; n++) {
-            int length = n;
-            long all = x.count(root, n);
-            if (n < 5) {
-                long due = model.words(n).stream().filter(each -> each.length() == length).count();
-                Check.answers("count in " + text, due, () -> all);
-            }
-            String before = "";
-            for (long number = 0; number < all; number += 1 + all / 50) {
-                x.find(root, n, number);
-                String found = Check.word(x);
-                Check.holds("in order: " + found, number == 0 || before.compareTo(found) < 0);
-                compareRead(x, root, model, found);
-                Check.holds("is a word: " + found, model.read(found) < 0);
-                before = found;
-            }
+            test.compareWords(n);
         }
     }
 
-    private static void compareRead(GuardedGrammar x, int root, Model model, String word) {
-        Check.spell(x, word);
+    private void compareWords(int n) {
+        roomFor(1);
+        long all = x.count(root, n);
+        if (n < 5) {
+            long due = model.words(n).stream().filter(each -> each.length() == n).count();
+            Check.answers("count in " + text, due, () -> all);
+        }
+        String before = "";
+        for (long number = 0; number < all; number += 1 + all / 50) {
+            roomFor(n + 2);
+            x.find(root, n, number);
+            String found = Check.word(x);
+            Check.holds("in order: " + found, number == 0 || before.compareTo(found) < 0);
+            compareRead(found);
+            Check.holds("is a word: " + found, model.read(found) < 0);
+            before = found;
+        }
+    }
+
+    private void compareRead(String word) {
         int stop = model.read(word);
+        roomFor(word.length() + 4);
+        Check.spell(x, word);
         if (stop < 0) {
             Check.answers("visits of " + word, model.visits, () -> x.read(root));
-            Check.same("trace of " + word, model.trace.toString(), Check.trace(x));
+            Check.answers("steps of " + word, model.trace.length(), x::trace);
         } else {
             Check.fails("read of " + word, IllegalArgumentException.class, () -> x.read(root));
         }
         Check.answers("stopped in " + word, stop, x::stopped);
+        if (stop < 0) {
+            compareSteps(word, model.trace.toString());
+        }
+    }
+
+    /** A trace can be longer than an object's calls: then it is read once more by another object. */
+    private void compareSteps(String word, String due) {
+        StringBuilder steps = new StringBuilder();
+        for (int i = 0; i < due.length(); i++) {
+            if (x.left() == 0) {
+                roomFor(1);
+                Check.spell(x, word);
+                x.read(root);
+            }
+            steps.append(x.step(i));
+        }
+        Check.same("trace of " + word, due, steps.toString());
+    }
+
+    /** The same term in a new object, if the old one can't be called so often any more. */
+    private void roomFor(int calls) {
+        if (x.left() < calls) {
+            x = new Counted();
+            root = Check.build(x, text);
+        }
     }
 
     private static Model.Term parse(String text) {

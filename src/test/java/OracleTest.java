@@ -9,7 +9,7 @@ public final class OracleTest {
     private static final int MOST_WORDS = 3000;
 
     private long seed = 20261119;
-    private final GuardedGrammar x = new GuardedGrammar();
+    private Counted x = new Counted();
     private List<Model.Term> made = new ArrayList<>();
     private int typedTerms = 0;
     private int readWords = 0;
@@ -32,13 +32,30 @@ public final class OracleTest {
     }
 
     private void oneRound() {
-        x.clear();
+        x = new Counted();
         made = new ArrayList<>();
         int size = 3 + draw(30);
         Model.Term last = draw(4) == 0 ? wild(size) : tame(size, "", 255, 3);
         Check.answers("terms", made.size(), x::terms);
         for (Model.Term t : made) {
             compare(t, t == last);
+        }
+    }
+
+    /** The same terms in a new object, if the old one can't be called so often any more. */
+    private void roomFor(int calls) {
+        if (x.left() >= calls) {
+            return;
+        }
+        x = new Counted();
+        for (Model.Term t : made) {
+            if (t.isKnot()) {
+                x.knot(t.sign - 'W', t.a.number);
+            } else if (t.a != null) {
+                x.join(t.a.number, t.b.number, t.sign == '|');
+            } else {
+                Check.build(x, "" + t.sign);
+            }
         }
     }
 
@@ -141,6 +158,7 @@ public final class OracleTest {
 
     private void compare(Model.Term t, boolean whole) {
         Model model = new Model(t);
+        roomFor(5);
         Check.answers("fault", model.fault, () -> x.fault(t.number));
         if (model.fault != 0) {
             Check.fails("type", IllegalStateException.class, () -> x.type(t.number, 0));
@@ -174,6 +192,7 @@ public final class OracleTest {
             for (String word : words) {
                 if (word.length() == n) {
                     int place = number;
+                    roomFor(20);
                     x.find(t.number, n, place);
                     Check.same("word " + place, word, Check.word(x));
                     number++;
@@ -183,6 +202,7 @@ public final class OracleTest {
                 }
             }
             int all = number;
+            roomFor(2);
             Check.answers("count", all, () -> x.count(t.number, length));
             Check.refuses("find behind the last", NoSuchElementException.class, () -> x.find(t.number, length, all));
         }
@@ -210,6 +230,7 @@ public final class OracleTest {
     }
 
     private void compareRead(Model.Term t, Model model, String word) {
+        roomFor(300);
         Check.spell(x, word);
         String before = Check.trace(x);
         int stop = model.read(word);
@@ -228,6 +249,7 @@ public final class OracleTest {
     // Longer than sets can be made: the words that are found must be read, and stand in order.
     private void compareLong(Model.Term t, Model model) {
         int n = 8 + draw(9);
+        roomFor(100);
         long all = x.count(t.number, n);
         if (all == 0) {
             return;
@@ -237,12 +259,14 @@ public final class OracleTest {
         String word = Check.word(x);
         compareRead(t, model, word);
         Check.holds("a long word is read", model.read(word) < 0);
+        roomFor(100);
         if (number + 1 < all) {
             x.find(t.number, n, number + 1);
             Check.holds("long words in order", word.compareTo(Check.word(x)) < 0);
         }
         x.find(t.number, n, 0);
         compareRead(t, model, Check.word(x));
+        roomFor(100);
         x.find(t.number, n, all - 1);
         compareRead(t, model, Check.word(x));
     }

@@ -48,7 +48,7 @@ public final class PromisesTest {
     }
 
     private static void newObject() {
-        GuardedGrammar x = new GuardedGrammar();
+        Counted x = new Counted();
         Check.answers("NONE", -1, () -> GuardedGrammar.NONE);
         Check.answers("terms of a new object", 0, x::terms);
         Check.answers("length of a new object", 0, x::length);
@@ -57,7 +57,7 @@ public final class PromisesTest {
         Check.fails("letter of a new object", INDEX, () -> x.letter(0));
         Check.fails("step of a new object", INDEX, () -> x.step(0));
         Check.fails("fault of a new object", INDEX, () -> x.fault(0));
-        GuardedGrammar y = new GuardedGrammar();
+        Counted y = new Counted();
         y.leaf(0);
         y.put(1);
         Check.answers("terms of another object", 0, x::terms);
@@ -65,7 +65,7 @@ public final class PromisesTest {
     }
 
     private static void leaf() {
-        GuardedGrammar x = new GuardedGrammar();
+        Counted x = new Counted();
         Check.fails("leaf(-3)", ARGUMENT, () -> x.leaf(-3));
         Check.fails("leaf(8)", ARGUMENT, () -> x.leaf(8));
         Check.fails("leaf(least)", ARGUMENT, () -> x.leaf(Integer.MIN_VALUE));
@@ -83,28 +83,28 @@ public final class PromisesTest {
             Check.answers("the first letter of leaf " + letter, 1 << letter, () -> x.type(term, 1));
             Check.answers("words of leaf " + letter, 1, () -> x.count(term, 0) + x.count(term, 1) + x.count(term, 2));
         }
-        fill(x);
+        Ask.fill(x);
         Check.fails("leaf when full", ROOM, () -> x.leaf(0));
         Check.fails("wrong leaf when full", ARGUMENT, () -> x.leaf(8));
         Check.answers("48 terms", 48, x::terms);
     }
 
     private static void variable() {
-        GuardedGrammar x = new GuardedGrammar();
+        Counted x = new Counted();
         Check.fails("variable(-1)", ARGUMENT, () -> x.variable(-1));
         Check.fails("variable(4)", ARGUMENT, () -> x.variable(4));
         for (int v = 0; v < 4; v++) {
             int which = v;
             Check.answers("variable " + v, v, () -> x.variable(which));
         }
-        fill(x);
+        Ask.fill(x);
         Check.fails("variable when full", ROOM, () -> x.variable(0));
         Check.fails("wrong variable when full", ARGUMENT, () -> x.variable(4));
         for (int v = 0; v < 4; v++) {
-            GuardedGrammar y = new GuardedGrammar();
+            Counted y = new Counted();
             int inner = Check.build(y, "|.0" + (char) ('w' + v) + "1");
             for (int w = 0; w < 4; w++) {
-                GuardedGrammar z = new GuardedGrammar();
+                Counted z = new Counted();
                 int whole = Check.build(z, (char) ('W' + w) + "|.0" + (char) ('w' + v) + "1");
                 Check.answers("knot " + w + " and variable " + v, v == w ? 0 : 8 + 1, () -> z.fault(whole));
             }
@@ -113,7 +113,7 @@ public final class PromisesTest {
     }
 
     private static void join() {
-        GuardedGrammar x = new GuardedGrammar();
+        Counted x = new Counted();
         x.leaf(0);
         x.leaf(1);
         Check.answers("a pair", 2, () -> x.join(0, 1, false));
@@ -130,7 +130,7 @@ public final class PromisesTest {
     }
 
     private static void joinThrowsInOrder() {
-        GuardedGrammar x = new GuardedGrammar();
+        Counted x = new Counted();
         Check.build(x, ".01");
         Check.build(x, "2");
         Check.fails("join(-1, 2)", INDEX, () -> x.join(-1, 2, false));
@@ -144,7 +144,7 @@ public final class PromisesTest {
         Check.fails("join of a second part", STATE, () -> x.join(1, 2, false));
         Check.fails("join with a second part", STATE, () -> x.join(2, 1, true));
         Check.answers("a free one and one more", 4, () -> x.join(3, 2, true));
-        fill(x);
+        Ask.fill(x);
         Check.fails("join when full", ROOM, () -> x.join(5, 6, true));
         Check.fails("join of a part when full", STATE, () -> x.join(0, 6, true));
         Check.fails("join of one when full", STATE, () -> x.join(6, 6, true));
@@ -159,7 +159,7 @@ public final class PromisesTest {
     }
 
     private static void knot() {
-        GuardedGrammar x = new GuardedGrammar();
+        Counted x = new Counted();
         x.leaf(0);
         Check.answers("a knot", 1, () -> x.knot(3, 0));
         Check.answers("words of a knot", 1, () -> x.count(1, 1));
@@ -173,14 +173,14 @@ public final class PromisesTest {
         x.leaf(2);
         Check.answers("a pair of knots", 7, () -> x.join(5, 6, false));
         Check.fails("four knots round a pair", ROOM, () -> x.knot(0, 7));
-        GuardedGrammar y = new GuardedGrammar();
+        Counted y = new Counted();
         int side = Check.build(y, ".W.0w.XY2WX1");
         Check.answers("knots side by side do not add up", side + 1, () -> y.knot(0, side));
         Check.fails("then there are three", ROOM, () -> y.knot(0, side + 1));
     }
 
     private static void knotThrowsInOrder() {
-        GuardedGrammar x = new GuardedGrammar();
+        Counted x = new Counted();
         int three = Check.build(x, "WXY0");
         Check.fails("knot(0, -1)", INDEX, () -> x.knot(0, -1));
         Check.fails("knot(0, terms)", INDEX, () -> x.knot(0, three + 1));
@@ -190,12 +190,12 @@ public final class PromisesTest {
         Check.fails("wrong fourth knot", ARGUMENT, () -> x.knot(4, three));
         Check.fails("wrong fourth knot below 0", ARGUMENT, () -> x.knot(-1, three));
         Check.fails("fourth knot", ROOM, () -> x.knot(0, three));
-        fill(x);
+        Ask.fill(x);
         Check.fails("knot when full", ROOM, () -> x.knot(0, 47));
         Check.fails("wrong knot when full", ARGUMENT, () -> x.knot(4, 47));
         Check.fails("knot of a part when full", STATE, () -> x.knot(4, 1));
         Check.fails("knot of none when full", INDEX, () -> x.knot(4, 48));
-        GuardedGrammar y = new GuardedGrammar();
+        Counted y = new Counted();
         y.leaf(0);
         y.knot(0, 0);
         Check.fails("join of a knot's part", STATE, () -> y.join(0, 1, true));
@@ -204,7 +204,7 @@ public final class PromisesTest {
     }
 
     private static void clear() {
-        GuardedGrammar x = new GuardedGrammar();
+        Counted x = new Counted();
         int nested = Check.build(x, NESTED);
         Check.spell(x, "01");
         Check.answers("read", 10, () -> x.read(nested));
@@ -221,14 +221,14 @@ public final class PromisesTest {
         Check.fails("read of a shorter term", ARGUMENT, () -> x.read(0));
         x.clear();
         Check.answers("stopped stays", 0, x::stopped);
-        fill(x);
+        Ask.fill(x);
         x.clear();
         Check.answers("room after clear", 0, () -> x.leaf(0));
         Check.answers("no old knots", 3, () -> x.knot(0, x.knot(0, x.knot(0, 0))));
     }
 
     private static void terms() {
-        GuardedGrammar x = new GuardedGrammar();
+        Counted x = new Counted();
         x.leaf(-1);
         Check.answers("terms: leaf", 1, x::terms);
         x.variable(0);
@@ -237,61 +237,61 @@ public final class PromisesTest {
         Check.answers("terms: join", 3, x::terms);
         x.knot(0, 2);
         Check.answers("terms: knot", 4, x::terms);
-        fill(x);
+        Ask.fill(x);
         Check.answers("terms: full", 48, x::terms);
     }
 
     private static void faultKinds() {
-        GuardedGrammar empty = new GuardedGrammar();
+        Counted empty = new Counted();
         Check.fails("fault(0) of none", INDEX, () -> empty.fault(0));
         Check.fails("fault(-1)", INDEX, () -> empty.fault(-1));
-        hasFault("nothing: a letter", 0, -1, "0");
-        hasFault("nothing: NONE", 0, -1, "n");
-        hasFault("nothing: nested", 0, -1, NESTED);
-        hasFault("unbound", 1, 0, "w");
-        hasFault("unbound by another knot", 1, 1, "X.0w");
-        hasFault("unbound behind a letter", 1, 1, ".0w");
-        hasFault("bound by the innermost knot", 2, 1, "W.0Ww");
-        hasFault("unguarded", 2, 0, "Ww");
-        hasFault("unguarded in an either", 2, 1, "W|0w");
-        hasFault("unguarded in a first part", 2, 0, "W.w0");
-        hasFault("guarded in an either", 0, -1, "W|.0w1");
-        hasFault("guarded through an inner knot", 0, -1, "W.0X|1.2|.3x|4w");
-        hasFault("the outer variable unguarded in an inner knot, guarded outside", 0, -1, "W.0X|w.3x");
-        hasFault("guarded outside its own knot only", 2, 2, "W.0X|1x");
-        hasFault("guarded in a first part inside a second one", 0, -1, "W|.0.w12");
-        hasFault("loose: nullable first part", 3, 2, ".e1");
-        hasFault("loose: nullable either", 3, 4, ".|0e1");
-        hasFault("loose: after and first", 3, 6, "..0|1e1");
-        hasFault("not loose: after and another first", 0, -1, "..0|1e.21");
-        hasFault("not loose: first and first", 0, -1, ".00");
-        hasFault("not loose: last letter and first", 0, -1, "..011");
-        hasFault("loose: by a knot", 3, 7, ".W.0|we0");
-        hasFault("double: both nullable", 4, 2, "|ee");
-        hasFault("double: first letters", 4, 2, "|00");
-        hasFault("double: among more letters", 4, 6, "||01|12");
-        hasFault("not double: one nullable", 0, -1, "|e0");
-        hasFault("not double: other letters", 0, -1, "||01|23");
-        hasFault("double: by a knot's type", 4, 7, "|W|.0w10");
-        hasFault("not double: behind a first part", 0, -1, "|.01.10");
-        hasFault("a pair first of NONE is not nullable", 0, -1, ".n.n0");
+        Ask.hasFault("nothing: a letter", 0, -1, "0");
+        Ask.hasFault("nothing: NONE", 0, -1, "n");
+        Ask.hasFault("nothing: nested", 0, -1, NESTED);
+        Ask.hasFault("unbound", 1, 0, "w");
+        Ask.hasFault("unbound by another knot", 1, 1, "X.0w");
+        Ask.hasFault("unbound behind a letter", 1, 1, ".0w");
+        Ask.hasFault("bound by the innermost knot", 2, 1, "W.0Ww");
+        Ask.hasFault("unguarded", 2, 0, "Ww");
+        Ask.hasFault("unguarded in an either", 2, 1, "W|0w");
+        Ask.hasFault("unguarded in a first part", 2, 0, "W.w0");
+        Ask.hasFault("guarded in an either", 0, -1, "W|.0w1");
+        Ask.hasFault("guarded through an inner knot", 0, -1, "W.0X|1.2|.3x|4w");
+        Ask.hasFault("the outer variable unguarded in an inner knot, guarded outside", 0, -1, "W.0X|w.3x");
+        Ask.hasFault("guarded outside its own knot only", 2, 2, "W.0X|1x");
+        Ask.hasFault("guarded in a first part inside a second one", 0, -1, "W|.0.w12");
+        Ask.hasFault("loose: nullable first part", 3, 2, ".e1");
+        Ask.hasFault("loose: nullable either", 3, 4, ".|0e1");
+        Ask.hasFault("loose: after and first", 3, 6, "..0|1e1");
+        Ask.hasFault("not loose: after and another first", 0, -1, "..0|1e.21");
+        Ask.hasFault("not loose: first and first", 0, -1, ".00");
+        Ask.hasFault("not loose: last letter and first", 0, -1, "..011");
+        Ask.hasFault("loose: by a knot", 3, 7, ".W.0|we0");
+        Ask.hasFault("double: both nullable", 4, 2, "|ee");
+        Ask.hasFault("double: first letters", 4, 2, "|00");
+        Ask.hasFault("double: among more letters", 4, 6, "||01|12");
+        Ask.hasFault("not double: one nullable", 0, -1, "|e0");
+        Ask.hasFault("not double: other letters", 0, -1, "||01|23");
+        Ask.hasFault("double: by a knot's type", 4, 7, "|W|.0w10");
+        Ask.hasFault("not double: behind a first part", 0, -1, "|.01.10");
+        Ask.hasFault("a pair first of NONE is not nullable", 0, -1, ".n.n0");
     }
 
     private static void faultMetFirst() {
-        hasFault("left before right", 4, 2, "||00.e1");
-        hasFault("left before right: loose", 3, 2, "|.e1|00");
-        hasFault("parts before wholes", 4, 2, "||000");
-        hasFault("parts before wholes, on the right", 4, 3, "|0|11");
-        hasFault("a variable before its pair", 1, 1, ".ew");
-        hasFault("a first part before a variable", 3, 2, "|.e0w");
-        hasFault("unguarded in the middle", 2, 1, "W|0|w|00");
-        GuardedGrammar x = new GuardedGrammar();
+        Ask.hasFault("left before right", 4, 2, "||00.e1");
+        Ask.hasFault("left before right: loose", 3, 2, "|.e1|00");
+        Ask.hasFault("parts before wholes", 4, 2, "||000");
+        Ask.hasFault("parts before wholes, on the right", 4, 3, "|0|11");
+        Ask.hasFault("a variable before its pair", 1, 1, ".ew");
+        Ask.hasFault("a first part before a variable", 3, 2, "|.e0w");
+        Ask.hasFault("unguarded in the middle", 2, 1, "W|0|w|00");
+        Counted x = new Counted();
         int right = Check.build(x, ".e1");
         int left = Check.build(x, "|00");
         x.join(left, right, true);
         Check.answers("the left one counts, not the one made first", 8 * left + 4, () -> x.fault(6));
         Check.answers("the right one by itself", 8 * right + 3, () -> x.fault(right));
-        GuardedGrammar y = new GuardedGrammar();
+        Counted y = new Counted();
         y.variable(1);
         y.variable(0);
         y.leaf(5);
@@ -302,7 +302,7 @@ public final class PromisesTest {
     }
 
     private static void faultByItself() {
-        GuardedGrammar x = new GuardedGrammar();
+        Counted x = new Counted();
         int whole = Check.build(x, NESTED);
         Check.answers("bound in the whole", 0, () -> x.fault(whole));
         Check.answers("unbound by itself", 8 * 1 + 1, () -> x.fault(1));
@@ -310,24 +310,24 @@ public final class PromisesTest {
         Check.answers("a part without it", 0, () -> x.fault(3));
         Check.fails("one too many", INDEX, () -> x.fault(whole + 1));
         Check.answers("bound in the whole, as before", 0, () -> x.fault(whole));
-        GuardedGrammar y = new GuardedGrammar();
+        Counted y = new Counted();
         int loose = Check.build(y, "X|.0.|1x34");
         Check.answers("a part in a knot", 8 * 2 + 1, () -> y.fault(3));
         Check.answers("round it", 0, () -> y.fault(loose));
     }
 
     private static void type() {
-        hasType("EMPTY", "e", 1, 0, 0);
-        hasType("NONE", "n", 0, 0, 0);
-        hasType("a letter", "3", 0, 8, 0);
-        hasType("an either", "|03", 0, 9, 0);
-        hasType("a nullable either", "||03e", 1, 9, 0);
-        hasType("a nullable either, otherwise", "|e|03", 1, 9, 0);
-        hasType("after of an either", "|.0|1e.2|3e", 0, 5, 10);
-        hasType("nested", NESTED, 1, 1, 0);
-        hasType("lists", LISTS, 0, 5, 0);
-        hasType("a knot around nothing", "W.0w", 0, 1, 0);
-        GuardedGrammar x = new GuardedGrammar();
+        Ask.hasType("EMPTY", "e", 1, 0, 0);
+        Ask.hasType("NONE", "n", 0, 0, 0);
+        Ask.hasType("a letter", "3", 0, 8, 0);
+        Ask.hasType("an either", "|03", 0, 9, 0);
+        Ask.hasType("a nullable either", "||03e", 1, 9, 0);
+        Ask.hasType("a nullable either, otherwise", "|e|03", 1, 9, 0);
+        Ask.hasType("after of an either", "|.0|1e.2|3e", 0, 5, 10);
+        Ask.hasType("nested", NESTED, 1, 1, 0);
+        Ask.hasType("lists", LISTS, 0, 5, 0);
+        Ask.hasType("a knot around nothing", "W.0w", 0, 1, 0);
+        Counted x = new Counted();
         int term = Check.build(x, ".0|1e");
         Check.fails("part -1", INDEX, () -> x.type(term, -1));
         Check.fails("part 3", INDEX, () -> x.type(term, 3));
@@ -345,20 +345,20 @@ public final class PromisesTest {
     }
 
     private static void typeOfPairs() {
-        hasType("a pair", ".01", 0, 1, 0);
-        hasType("a pair with a nullable end", ".0|1e", 0, 1, 2);
-        hasType("a pair with EMPTY", ".0e", 0, 1, 0);
-        hasType("after of the first part goes through", "..0|1e|2e", 0, 1, 6);
-        hasType("after of the first part stops", "..0|1e2", 0, 1, 0);
-        hasType("after of the second part", ".0.1|2e", 0, 1, 4);
-        hasType("after of the second part, nullable", ".0|.1|2ee", 0, 1, 6);
-        hasType("a first part without words", ".n|1e", 0, 0, 2);
-        hasType("after by a variable", "W.0|.1we", 0, 1, 2);
-        hasType("after by a variable at the end", "W|.0wX|.1x|.2we", 1, 7, 7);
+        Ask.hasType("a pair", ".01", 0, 1, 0);
+        Ask.hasType("a pair with a nullable end", ".0|1e", 0, 1, 2);
+        Ask.hasType("a pair with EMPTY", ".0e", 0, 1, 0);
+        Ask.hasType("after of the first part goes through", "..0|1e|2e", 0, 1, 6);
+        Ask.hasType("after of the first part stops", "..0|1e2", 0, 1, 0);
+        Ask.hasType("after of the second part", ".0.1|2e", 0, 1, 4);
+        Ask.hasType("after of the second part, nullable", ".0|.1|2ee", 0, 1, 6);
+        Ask.hasType("a first part without words", ".n|1e", 0, 0, 2);
+        Ask.hasType("after by a variable", "W.0|.1we", 0, 1, 2);
+        Ask.hasType("after by a variable at the end", "W|.0wX|.1x|.2we", 1, 7, 7);
     }
 
     private static void put() {
-        GuardedGrammar x = new GuardedGrammar();
+        Counted x = new Counted();
         Check.holds("put(-1)", !x.put(-1));
         Check.holds("put(8)", !x.put(8));
         Check.answers("length after wrong letters", 0, x::length);
@@ -378,7 +378,7 @@ public final class PromisesTest {
     }
 
     private static void cut() {
-        GuardedGrammar x = new GuardedGrammar();
+        Counted x = new Counted();
         Check.holds("cut(0) of nothing", x.cut(0));
         Check.holds("cut(1) of nothing", !x.cut(1));
         Check.spell(x, "0123");
@@ -397,7 +397,7 @@ public final class PromisesTest {
     }
 
     private static void letter() {
-        GuardedGrammar x = new GuardedGrammar();
+        Counted x = new Counted();
         Check.spell(x, "70");
         Check.answers("length", 2, x::length);
         Check.answers("letter(0)", 7, () -> x.letter(0));
@@ -411,16 +411,16 @@ public final class PromisesTest {
     }
 
     private static void read() {
-        reads("EMPTY", "e", "", 1, "");
-        reads("a letter", "5", "5", 1, "");
-        reads("a pair", ".56", "56", 3, "");
-        reads("a knot", "W5", "5", 2, "");
-        reads("no letters by nested", NESTED, "", 3, "1");
-        reads("nested", NESTED, "0011", 17, "001");
-        reads("a row", "W|.0w1", "0001", 3 * 5 + 3, "0001");
-        reads("an empty list", LISTS, "213", 9, "10");
-        reads("a list of one", LISTS, "2013", 17, "1100");
-        GuardedGrammar x = new GuardedGrammar();
+        Ask.reads("EMPTY", "e", "", 1, "");
+        Ask.reads("a letter", "5", "5", 1, "");
+        Ask.reads("a pair", ".56", "56", 3, "");
+        Ask.reads("a knot", "W5", "5", 2, "");
+        Ask.reads("no letters by nested", NESTED, "", 3, "1");
+        Ask.reads("nested", NESTED, "0011", 17, "001");
+        Ask.reads("a row", "W|.0w1", "0001", 3 * 5 + 3, "0001");
+        Ask.reads("an empty list", LISTS, "213", 9, "10");
+        Ask.reads("a list of one", LISTS, "2013", 17, "1100");
+        Counted x = new Counted();
         int term = Check.build(x, "..|01|23|45");
         Check.spell(x, "035");
         Check.answers("a part by itself", 5, () -> x.cut(2) ? x.read(term - 4) : -1);
@@ -429,36 +429,36 @@ public final class PromisesTest {
     }
 
     private static void readEithers() {
-        reads("by the part with the letter, not the nullable one", "|e1", "1", 2, "1");
-        reads("by the nullable part at the end", "|1e", "", 2, "1");
-        reads("by the first part, nullable", "|e1", "", 2, "0");
-        reads("by the nullable part before another letter", "..0|1e2", "02", 6, "1");
-        reads("not by the nullable part", "..0|1e2", "012", 6, "0");
-        reads("eithers in order", "||01|23", "2", 3, "10");
-        reads("a nullable part with letters of its own", ".0||1e2", "0", 5, "01");
+        Ask.reads("by the part with the letter, not the nullable one", "|e1", "1", 2, "1");
+        Ask.reads("by the nullable part at the end", "|1e", "", 2, "1");
+        Ask.reads("by the first part, nullable", "|e1", "", 2, "0");
+        Ask.reads("by the nullable part before another letter", "..0|1e2", "02", 6, "1");
+        Ask.reads("not by the nullable part", "..0|1e2", "012", 6, "0");
+        Ask.reads("eithers in order", "||01|23", "2", 3, "10");
+        Ask.reads("a nullable part with letters of its own", ".0||1e2", "0", 5, "01");
     }
 
     private static void readStops() {
-        stops("NONE", "n", "", 0);
-        stops("NONE before a letter", "n", "0", 0);
-        stops("NONE behind a letter", ".0n", "00", 1);
-        stops("no letter", "0", "", 0);
-        stops("another letter", "0", "1", 0);
-        stops("a letter left", "0", "00", 1);
-        stops("letters left", "e", "000", 0);
-        stops("an either without the letter", "|01", "2", 0);
-        stops("an either at the end", "|01", "", 0);
-        stops("an either inside", ".0|12", "00", 1);
-        stops("too few", NESTED, "001", 3);
-        stops("too many", NESTED, "011", 2);
-        stops("no letter there", NESTED, "02", 1);
-        stops("all wrong", NESTED, "1", 0);
-        stops("behind a nullable part", "..0|1e2", "03", 1);
-        stops("behind a nullable part that was read", "..0|1e2", "011", 2);
+        Ask.stops("NONE", "n", "", 0);
+        Ask.stops("NONE before a letter", "n", "0", 0);
+        Ask.stops("NONE behind a letter", ".0n", "00", 1);
+        Ask.stops("no letter", "0", "", 0);
+        Ask.stops("another letter", "0", "1", 0);
+        Ask.stops("a letter left", "0", "00", 1);
+        Ask.stops("letters left", "e", "000", 0);
+        Ask.stops("an either without the letter", "|01", "2", 0);
+        Ask.stops("an either at the end", "|01", "", 0);
+        Ask.stops("an either inside", ".0|12", "00", 1);
+        Ask.stops("too few", NESTED, "001", 3);
+        Ask.stops("too many", NESTED, "011", 2);
+        Ask.stops("no letter there", NESTED, "02", 1);
+        Ask.stops("all wrong", NESTED, "1", 0);
+        Ask.stops("behind a nullable part", "..0|1e2", "03", 1);
+        Ask.stops("behind a nullable part that was read", "..0|1e2", "011", 2);
     }
 
     private static void readThrows() {
-        GuardedGrammar x = new GuardedGrammar();
+        Counted x = new Counted();
         Check.fails("read of no term", INDEX, () -> x.read(0));
         Check.fails("read(-1)", INDEX, () -> x.read(-1));
         int bad = Check.build(x, "|00");
@@ -471,7 +471,7 @@ public final class PromisesTest {
     }
 
     private static void stopped() {
-        GuardedGrammar x = new GuardedGrammar();
+        Counted x = new Counted();
         int nested = Check.build(x, NESTED);
         int bad = Check.build(x, "|00");
         Check.spell(x, "001");
@@ -496,7 +496,7 @@ public final class PromisesTest {
     }
 
     private static void trace() {
-        GuardedGrammar x = new GuardedGrammar();
+        Counted x = new Counted();
         int nested = Check.build(x, NESTED);
         Check.spell(x, "0011");
         x.read(nested);
@@ -525,16 +525,16 @@ public final class PromisesTest {
     }
 
     private static void count() {
-        counts("EMPTY", "e", 1, 0, 0);
-        counts("NONE", "n", 0, 0, 0);
-        counts("a letter", "4", 0, 1, 0);
-        counts("nested", NESTED, 1, 0, 1, 0, 1, 0, 1, 0, 1, 0, 1, 0, 1, 0, 1, 0, 1);
-        counts("brackets", "W|..0w.1we", 1, 0, 1, 0, 2, 0, 5, 0, 14, 0, 42, 0, 132, 0, 429, 0, 1430);
-        counts("a knot without an end", "W.0w", 0, 0, 0, 0);
-        counts("a variable in a first part", "W|.0.w12", 0, 1, 0, 1, 0, 1);
-        counts("two knots", "W|2.0X|3.1w", 0, 1, 1, 1, 1, 1);
+        Ask.counts("EMPTY", "e", 1, 0, 0);
+        Ask.counts("NONE", "n", 0, 0, 0);
+        Ask.counts("a letter", "4", 0, 1, 0);
+        Ask.counts("nested", NESTED, 1, 0, 1, 0, 1, 0, 1, 0, 1, 0, 1, 0, 1, 0, 1, 0, 1);
+        Ask.counts("brackets", "W|..0w.1we", 1, 0, 1, 0, 2, 0, 5, 0, 14, 0, 42, 0, 132, 0, 429, 0, 1430);
+        Ask.counts("a knot without an end", "W.0w", 0, 0, 0, 0);
+        Ask.counts("a variable in a first part", "W|.0.w12", 0, 1, 0, 1, 0, 1);
+        Ask.counts("two knots", "W|2.0X|3.1w", 0, 1, 1, 1, 1, 1);
         String any = "W|e.|||01|23||45|67w";
-        GuardedGrammar x = new GuardedGrammar();
+        Counted x = new Counted();
         int all = Check.build(x, any);
         for (int n = 0; n <= 16; n++) {
             int length = n;
@@ -549,7 +549,7 @@ public final class PromisesTest {
     }
 
     private static void countThrows() {
-        GuardedGrammar x = new GuardedGrammar();
+        Counted x = new Counted();
         Check.fails("count of no term", INDEX, () -> x.count(0, 0));
         Check.fails("count of no term, and no length", INDEX, () -> x.count(-1, 17));
         int bad = Check.build(x, "|00");
@@ -562,16 +562,16 @@ public final class PromisesTest {
     }
 
     private static void find() {
-        finds("EMPTY", "e", 0, "");
-        finds("a letter", "6", 1, "6");
-        finds("an either out of order", "||20|31", 1, "0", "1", "2", "3");
-        finds("first letters out of order", "|.20.13", 2, "13", "20");
-        finds("pairs", ".|10|32", 2, "02", "03", "12", "13");
-        finds("first parts of two lengths", ".|0.12|.453", 3, "045", "123");
-        finds("second parts of two lengths", "..0|1e|2.33", 3, "012", "033");
-        finds("brackets", "W|..0w.1we", 6, "000111", "001011", "001101", "010011", "010101");
-        finds("lists", LISTS, 6, "200013", "221313");
-        GuardedGrammar x = new GuardedGrammar();
+        Ask.finds("EMPTY", "e", 0, "");
+        Ask.finds("a letter", "6", 1, "6");
+        Ask.finds("an either out of order", "||20|31", 1, "0", "1", "2", "3");
+        Ask.finds("first letters out of order", "|.20.13", 2, "13", "20");
+        Ask.finds("pairs", ".|10|32", 2, "02", "03", "12", "13");
+        Ask.finds("first parts of two lengths", ".|0.12|.453", 3, "045", "123");
+        Ask.finds("second parts of two lengths", "..0|1e|2.33", 3, "012", "033");
+        Ask.finds("brackets", "W|..0w.1we", 6, "000111", "001011", "001101", "010011", "010101");
+        Ask.finds("lists", LISTS, 6, "200013", "221313");
+        Counted x = new Counted();
         int all = Check.build(x, "W|e.|||01|23||45|67w");
         x.find(all, 16, (1L << 48) - 1);
         Check.same("the last of all words", "7777777777777777", Check.word(x));
@@ -587,7 +587,7 @@ public final class PromisesTest {
     }
 
     private static void findThrows() {
-        GuardedGrammar x = new GuardedGrammar();
+        Counted x = new Counted();
         Check.refuses("find in no term", INDEX, () -> x.find(0, 17, -1));
         int bad = Check.build(x, "|00");
         Check.spell(x, "123");
@@ -603,62 +603,5 @@ public final class PromisesTest {
         Check.same("the word stays", "123", Check.word(x));
         x.find(0, 1, 0);
         Check.same("the word then", "0", Check.word(x));
-    }
-
-    private static void fill(GuardedGrammar x) {
-        for (int i = x.terms(); i < 48; i++) {
-            x.leaf(-1);
-        }
-    }
-
-    private static void hasFault(String what, int kind, int term, String text) {
-        GuardedGrammar x = new GuardedGrammar();
-        int root = Check.build(x, text);
-        Check.answers(what + " " + text, kind == 0 ? 0 : 8 * term + kind, () -> x.fault(root));
-    }
-
-    private static void hasType(String what, String text, int nullable, int first, int after) {
-        GuardedGrammar x = new GuardedGrammar();
-        int root = Check.build(x, text);
-        Check.answers("whether nullable: " + what, nullable, () -> x.type(root, 0));
-        Check.answers("first: " + what, first, () -> x.type(root, 1));
-        Check.answers("after: " + what, after, () -> x.type(root, 2));
-    }
-
-    private static void reads(String what, String text, String word, int visits, String trace) {
-        GuardedGrammar x = new GuardedGrammar();
-        int root = Check.build(x, text);
-        Check.spell(x, word);
-        Check.answers("visits: " + what, visits, () -> x.read(root));
-        Check.same("trace: " + what, trace, Check.trace(x));
-        Check.answers("stopped: " + what, -1, x::stopped);
-    }
-
-    private static void stops(String what, String text, String word, int place) {
-        GuardedGrammar x = new GuardedGrammar();
-        int root = Check.build(x, text);
-        Check.spell(x, word);
-        Check.fails("read: " + what, ARGUMENT, () -> x.read(root));
-        Check.answers("stopped: " + what, place, x::stopped);
-        Check.answers("no trace: " + what, 0, x::trace);
-    }
-
-    private static void counts(String what, String text, long... due) {
-        GuardedGrammar x = new GuardedGrammar();
-        int root = Check.build(x, text);
-        for (int n = 0; n < due.length; n++) {
-            int length = n;
-            Check.answers("words of " + n + ": " + what, due[n], () -> x.count(root, length));
-        }
-    }
-
-    private static void finds(String what, String text, int n, String... due) {
-        GuardedGrammar x = new GuardedGrammar();
-        int root = Check.build(x, text);
-        for (int number = 0; number < due.length; number++) {
-            x.find(root, n, number);
-            Check.same("word " + number + ": " + what, due[number], Check.word(x));
-        }
-        Check.refuses("find: " + what, ELEMENT, () -> x.find(root, n, due.length));
     }
 }

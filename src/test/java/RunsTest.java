@@ -7,8 +7,9 @@ import java.util.SortedSet;
 
 /** Runs of 512 calls with arguments of all sorts, each answer held against what a plain state says. */
 public final class RunsTest {
-    private static final int RUNS = 1500;
-    private static final int CALLS = 512;
+    private static final int RUNS = 3000;
+    // A step makes this many calls at most.
+    private static final int STEP = 16;
     private static final int MOST_LETTERS_IN_SETS = 5;
 
     // Typed terms, more of them than chance would put together; read from the left to the right.
@@ -16,7 +17,7 @@ public final class RunsTest {
         "W|e.||012w", "Z|.0.z12", ".|0.12|.453", "X|.0xW|.1w2", "..0|1e|2e", "WX|.0w|.1xe"};
 
     private long seed = 19;
-    private GuardedGrammar x;
+    private Counted x;
     private List<Model.Term> terms;
     private Set<Model.Term> parts;
     private String word;
@@ -40,21 +41,21 @@ public final class RunsTest {
     }
 
     private void oneRun() {
-        x = new GuardedGrammar();
+        x = new Counted();
         terms = new ArrayList<>();
         parts = new HashSet<>();
         word = "";
         trace = "";
         stopped = -1;
-        for (int call = 0; call < CALLS; call++) {
-            oneCall();
+        while (x.left() >= STEP) {
+            oneStep();
         }
-        Check.answers("terms", terms.size(), x::terms);
-        Check.same("word", word, Check.word(x));
-        Check.same("trace", trace, Check.trace(x));
+        while (x.left() > 0) {
+            Check.answers("terms", terms.size(), x::terms);
+        }
     }
 
-    private void oneCall() {
+    private void oneStep() {
         int kind = draw(200);
         if (kind < 5) {
             x.clear();
